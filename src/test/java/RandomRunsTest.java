@@ -45,6 +45,7 @@ public final class RandomRunsTest {
     private BackYear x;
     private Model m;
     private StringBuilder calls;
+    private boolean prepared;
     private final int[] laneOf = new int[4];
 
     private void due(String call, long got, long want) {
@@ -111,10 +112,19 @@ public final class RandomRunsTest {
                 due3(name, d, p, v, x.worth(d, p, v), m.worth(d, p, v)); break; }
             case 5: { int d = aDeed(), p = near(0, 3); due2(name, d, p, x.worthOf(d, p), m.worthOf(d, p)); break; }
             case 6: { int s = aSet(all()); due(name + "(" + s + ")", x.last(s), m.last(s)); break; }
-            case 7: aText(); break;
+            case 7: {
+                if (!prepared || upTo(15) == 0) {
+                    aText();
+                }
+                break; }
             case 9: { int w = near(0, 6); due(name + "(" + w + ")", x.count(w), m.count(w)); break; }
-            case 10: { int d = aDeed(); due(name + "(" + d + ")", x.right(d), m.right(d)); break; }
-            case 11: due(name + "()", x.back(), m.back()); break;
+            case 10: { int d = upTo(4) == 0 ? aDeed() : deedOfTheDay(); due(name + "(" + d + ")", x.right(d), m.right(d)); break; }
+            case 11: {
+                if (x.count(2) == 0 && upTo(2) != 0) {
+                    due("year()", x.year(), m.year());
+                }
+                due(name + "()", x.back(), m.back());
+                break; }
             case 12: due(name + "()", x.year(), m.year()); break;
             case 13: { int p = near(-1, x.count(0) - 1); due(name + "(" + p + ")", x.value(p), m.value(p)); break; }
             case 14: { int d = aDeed(); due(name + "(" + d + ")", x.bears(d), m.bears(d)); break; }
@@ -280,10 +290,48 @@ public final class RandomRunsTest {
         }
     }
 
+    private int deedOfTheDay() {
+        int found = aDeed();
+        for (int d = 0; d < deeds(); d++) {
+            found = x.told(d, 1) == x.count(2) - 1 && upTo(2) != 0 ? d : found;
+        }
+        return found;
+    }
+
+    /** Deeds with all that can be told of them, and rows, so that hard questions are met. */
+    private void prepare() {
+        int people = 1 + Math.max(upTo(3), upTo(3));
+        due("people(" + people + ")", x.people(people), m.people(people));
+        int days = 1 + upTo(10);
+        for (int d = 3 + upTo(9); d > 0; d--) {
+            int kind = upTo(3), day = 11 - upTo(days), needs = fewOf(needable(12, day));
+            needs = upTo(2) == 0 ? needs | someOf(needable(12, day)) : needs;
+            due3("deed", kind, day, needs, x.deed(kind, day, needs), m.deed(kind, day, needs));
+        }
+        int most = upTo(1) == 0 ? 9 : 2;
+        for (int d = 0; d < deeds(); d++) {
+            for (int p = 0; p < 4; p++) {
+                int v = upTo(2 * most) - most;
+                due3("worth", d, p, v, x.worth(d, p, v), m.worth(d, p, v));
+            }
+            int cost = upTo(most), odds = upTo(4);
+            due3("set", d, 0, cost, x.set(d, 0, cost), m.set(d, 0, cost));
+            due3("set", d, 1, odds, x.set(d, 1, odds), m.set(d, 1, odds));
+        }
+        for (int s = 0; s < 4 && upTo(5) != 0; s++) {
+            laneOf[s] = upTo(3);
+            due3("sheet", s, laneOf[s], 16, x.sheet(s, laneOf[s], 16), m.sheet(s, laneOf[s], 16));
+        }
+    }
+
     private void run() {
         x = new BackYear();
         m = new Model();
         calls = new StringBuilder();
+        prepared = upTo(4) != 0;
+        if (prepared) {
+            prepare();
+        }
         for (int done = 0; done < CALLS; done++) {
             call(pick());
         }
