@@ -273,11 +273,13 @@ public final class BackYear {
 
     /** May be below 0. */
     public long upper() {
-        return Guesses.meanOfFourths(now) >> Guesses.halvings(now);
+        long mean = Guesses.mean(now, 0, 0, 0);
+        return mean >> Guesses.halvings(mean, now.deeds);
     }
 
     public long lower() {
-        return Guesses.fourths(now) >> Guesses.halvings(now);
+        long mean = Guesses.mean(now, 0, 0, 0);
+        return Guesses.parts(now.deeds) >> Guesses.halvings(mean, now.deeds);
     }
 
     public int comes(int k, int what) {
@@ -561,6 +563,14 @@ public final class BackYear {
             return worth[deed * MOST_PEOPLE + person];
         }
 
+        private int worthToAll(int deed) {
+            int sum = 0;
+            for (int person = 0; person < people; person++) {
+                sum += worthTo(deed, person);
+            }
+            return sum;
+        }
+
         /** Whether the deed stands, unless it is righted, when those of the set stand. */
         private boolean wouldStand(int deed, int stand) {
             boolean goesOn = kind[deed] == HABIT && isIn(lastYear, deed);
@@ -607,10 +617,7 @@ public final class BackYear {
         }
 
         private int sumBy(int gone) {
-            return sumOf(gone, standing(gone));
-        }
-
-        private int sumOf(int gone, int stand) {
+            int stand = standing(gone);
             int sum = 0;
             for (int person = 0; person < people; person++) {
                 sum += valueOf(person, gone, stand);
@@ -824,36 +831,36 @@ public final class BackYear {
             return true;
         }
 
-        private static long meanOfFourths(Year year) {
-            return mean(year, 0, 0);
+        /** In how many parts the mean is told: four a deed. */
+        private static long parts(int deeds) {
+            return 1L << 2 * deeds;
         }
 
-        /** Of how many parts the mean is told: four a deed. */
-        private static long fourths(Year year) {
-            return 1L << 2 * year.deeds;
-        }
-
-        /** By how many halvings the mean comes to lowest terms. */
-        private static int halvings(Year year) {
-            long rest = meanOfFourths(year) | fourths(year);
+        /** By how many halvings the mean and its parts come to lowest terms. */
+        private static int halvings(long mean, int deeds) {
+            long both = mean | parts(deeds);
             int halvings = 0;
-            while (halvings < 2 * MOST_DEEDS && (rest >> halvings & 1) == 0) {
+            while (halvings < 2 * MOST_DEEDS && (both >> halvings & 1) == 0) {
                 halvings++;
             }
             return halvings;
         }
 
-        /** The mean sum, if those of lesser numbers stand so, times 4 for each deed left. */
-        private static long mean(Year year, int deed, int stood) {
+        /** The mean of the sum, if those of lesser numbers stand so and are worth so much; times 4 a deed left. */
+        private static long mean(Year year, int deed, int stood, int sum) {
             if (deed >= year.deeds) {
-                return year.sumOf(0, stood);
+                return sum;
             }
-            long without = mean(year, deed + 1, stood);
-            if (!year.wouldStand(deed, stood)) {
-                return FULL_ODDS * without;
+            int odds = year.wouldStand(deed, stood) ? year.odds[deed] : 0;
+            long with = 0;
+            if (odds > 0) {
+                with = mean(year, deed + 1, stood | 1 << deed, sum + year.worthToAll(deed));
             }
-            int odds = year.odds[deed];
-            return odds * mean(year, deed + 1, stood | 1 << deed) + (FULL_ODDS - odds) * without;
+            long without = 0;
+            if (odds < FULL_ODDS) {
+                without = mean(year, deed + 1, stood, sum);
+            }
+            return odds * with + (FULL_ODDS - odds) * without;
         }
     }
 

@@ -272,6 +272,34 @@ public final class DeedsTest {
         due("10 more deeds come behind", x.count(1), 3);
     }
 
+    /** Years to come were asked for ahead: nothing of them may come to a text. */
+    private static void promise10behindOthers() {
+        BackYear x = Check.of(2, "pL,hA");
+        x.last(2);
+        for (int d = 0; d < 2; d++) {
+            Check.worths(x, d, -9, -8, -7, -6);
+            x.set(d, 0, 9);
+            x.set(d, 1, 0);
+        }
+        x.right(0);
+        x.back();
+        x.comes(1, 0);
+        x.people(3);
+        due("10 behind others", Check.text(x, "pA"), 1);
+        due("10 behind others: one more", x.deed(0, 0, 0), 1);
+        for (int d = 0; d < 2; d++) {
+            for (int person = 0; person < 4; person++) {
+                due("10 behind others: worth of " + d + " to " + person, x.worthOf(d, person), 0);
+            }
+            due("10 behind others: cost of " + d, x.told(d, 3), 1);
+            due("10 behind others: odds of " + d, x.told(d, 4), 4);
+        }
+        int[] want = {3, 2, 12, 0, 3, 0, 0};
+        for (int what = 0; what < 7; what++) {
+            due("10 behind others: count(" + what + ")", x.count(what), want[what]);
+        }
+    }
+
     private static void promise11() {
         BackYear x = Check.of(4, "pA,hBa,hLb,pL");
         x.last(2);
@@ -303,6 +331,7 @@ public final class DeedsTest {
         promise10faults();
         promise10longest();
         promise10state();
+        promise10behindOthers();
         promise11();
         CHECK.end();
     }

@@ -227,6 +227,9 @@ public final class SheetsTest {
         due("33 as long as told", x.item(0, 0, 2, 7), -13);
         due("33 a longer one", x.sheet(0, 0, 16), 16);
         item("33 all of it 0", x, 0, 0, 15, 0);
+        x.item(0, 0, 0, 5);
+        x.sheet(0, 1, 16);
+        item("33 a new one in another lane", x, 0, 1, 0, 0);
         due("34 drop", x.drop(0), 16);
         due("34 drop it again", x.drop(0), -11);
         due("34 a row of none", x.drop(3), 0);

@@ -79,6 +79,8 @@ public final class WalksTest {
         costs(y, 2, 0);
         best(y, "fair, a free one", 4, 1, -17, 2);
         best(y, "not fair", 4, 0, -2, 3);
+        y.people(2);
+        best(y, "fair to those that there are", 4, 1, -2, 3);
     }
 
     private static void promise18() {
@@ -185,6 +187,9 @@ public final class WalksTest {
         Check.worths(x, 0, 0, 0, 0);
         Check.worths(x, 1, 0, 0, 0);
         bargain("gain 0, loss 0", x, 0, 1, -4, -4);
+        Check.worths(x, 0, -1, 1, 0);
+        bargain("the least gain", x, 0, 1, 1, 1);
+        bargain("gain 0, the other has one", x, 2, 0, -4, -4);
         due("21 deed 3", x.bargain(3, 0, 1, 0), -1);
         due("21 deed -1", x.bargain(-1, 0, 1, 0), -1);
         due("21 first 3", x.bargain(0, 3, 1, 0), -1);
