@@ -774,22 +774,22 @@ public final class BackYear {
         }
 
         private static int fewestPayments(int[] dues) {
-            int open = 0;
+            int unpaid = 0;
             for (int person = 0; person < dues.length; person++) {
                 if (dues[person] != 0) {
-                    open |= 1 << person;
+                    unpaid |= 1 << person;
                 }
             }
-            return Integer.bitCount(open) - mostSets(dues, open);
+            return Integer.bitCount(unpaid) - mostSets(dues, unpaid);
         }
 
         /** Nobody whose due is not 0 is a set alone, so four people make two sets at most. */
-        private static int mostSets(int[] dues, int open) {
-            if (open == 0) {
+        private static int mostSets(int[] dues, int unpaid) {
+            if (unpaid == 0) {
                 return 0;
             }
-            for (int set = 1; set < open; set++) {
-                if (isWithin(set, open) && sumOf(dues, set) == 0) {
+            for (int set = 1; set < unpaid; set++) {
+                if (isWithin(set, unpaid) && sumOf(dues, set) == 0) {
                     return 2;
                 }
             }
