@@ -218,8 +218,10 @@ final class Model {
             return BAD;
         }
         Deed d = s.deeds.get(deed);
-        int[] all = {d.kind, d.day, bits(d.needs), d.cost, d.odds,
-            standing(s, s.righted).contains(deed) ? 1 : 0, s.righted.contains(deed) ? 1 : 0};
+        if (what == 5) {
+            return standing(s, s.righted).contains(deed) ? 1 : 0;
+        }
+        int[] all = {d.kind, d.day, bits(d.needs), d.cost, d.odds, 0, s.righted.contains(deed) ? 1 : 0};
         return all[what];
     }
 
@@ -327,8 +329,10 @@ final class Model {
         if (!between(what, 0, 6)) {
             return BAD;
         }
-        int[] all = {s.people, s.deeds.size(), s.day + 1, s.years, bits(standing(s, s.righted)),
-            bits(s.righted), bits(s.last)};
+        if (what == 4) {
+            return bits(standing(s, s.righted));
+        }
+        int[] all = {s.people, s.deeds.size(), s.day + 1, s.years, 0, bits(s.righted), bits(s.last)};
         return all[what];
     }
 
@@ -716,18 +720,22 @@ final class Model {
                 return NOT;
             }
         }
-        List<Integer> can = new ArrayList<>();
-        for (int bits = 0; bits < 1 << deed; bits++) {
-            boolean fits = set(bits).stream().allMatch(e -> s.deeds.get(e).day <= s.deeds.get(deed).day);
-            for (long year : years) {
-                Set<Integer> stood = set((int) year);
-                fits &= byKind(s.deeds.get(deed).kind, set(bits), stood, false) == stood.contains(deed);
-            }
-            if (fits) {
-                can.add(bits);
+        Deed asked = s.deeds.get(deed);
+        List<Set<Integer>> nets = new ArrayList<>();
+        nets.add(new TreeSet<>());
+        for (int d = 0; d < deed; d++) {
+            for (int known = nets.size() - 1; known >= 0 && s.deeds.get(d).day <= asked.day; known--) {
+                Set<Integer> more = new TreeSet<>(nets.get(known));
+                more.add(d);
+                nets.add(more);
             }
         }
-        return what == 0 ? can.size() : can.isEmpty() ? NONE : can.get(0);
+        for (long year : years) {
+            Set<Integer> stood = set((int) year);
+            nets.removeIf(net -> byKind(asked.kind, net, stood, false) != stood.contains(deed));
+        }
+        nets.sort(Comparator.comparingInt(Model::bits));
+        return what == 0 ? nets.size() : nets.isEmpty() ? NONE : bits(nets.get(0));
     }
 
     int film(int sheet, int lane, int i) {

@@ -3,7 +3,7 @@ import java.util.Arrays;
 /** Promises 30 to 36: rows judged, nets, films, and the sheets themselves. */
 public final class SheetsTest {
     private static final Check CHECK = new Check("SheetsTest");
-    private static final long OTHER = 4096;
+    private static final long OTHER = Rows.OTHER;
 
     private SheetsTest() {
     }
@@ -145,34 +145,8 @@ public final class SheetsTest {
         due("31 behind these", x.net(1, 0, 3, 2, 1, 0), 2);
     }
 
-    /**
-     * Item i, found by calls alone: 0 to 4095, since a deed of a day ahead of all others' has one net if it
-     * stood; -1, since it is nothing in a walk; all others are OTHER. Uses the image and sheet 3.
-     */
-    private static long read(BackYear x, int sheet, int lane, int i) {
-        x.image();
-        Check.text(x, "pL,pK,pJ,pI,pH,pG,pF,pE,pD,pC,pB,pA");
-        long found = 0;
-        for (int d = 0; d < 12; d++) {
-            int nets = x.net(d, sheet, lane, i, 1, 0);
-            found = nets < 0 ? OTHER : found | (long) nets << d;
-        }
-        if (found == OTHER) {
-            Check.text(x, "pA");
-            x.sheet(3, lane, 12);
-            for (int k = 1; k < 12; k++) {
-                x.item(3, lane, k, -1);
-            }
-            x.copy(sheet, i, 3, 0, 1);
-            found = x.judged(3, lane, 0) == -4 ? -1 : OTHER;
-            x.drop(3);
-        }
-        x.restore();
-        return found;
-    }
-
     private static void item(String what, BackYear x, int sheet, int lane, int i, long want) {
-        due(what + ", item " + i + " of lane " + lane, read(x, sheet, lane, i), want);
+        due(what + ", item " + i + " of lane " + lane, Rows.read(x, sheet, lane, i), want);
     }
 
     private static void promise32() {
