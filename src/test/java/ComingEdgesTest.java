@@ -160,6 +160,26 @@ public final class ComingEdgesTest {
         expected("worth to one who is not there", x, 0, 1);
     }
 
+    private static void byNumbers() {
+        says("Terms", "EXPECTED: DEED by DEED, from 0 on");
+        BackYear x = new BackYear();
+        x.people(1);
+        for (int d = 0; d < 12; d++) {
+            x.deed(PLAIN, 0, d == 0 ? 0 : 1 << d - 1);
+            x.set(d, 1, 2);
+        }
+        x.worth(11, 0, 1);
+        expected("one after the other, 2 of 4 each", x, 1, 4096);
+        x.set(0, 1, 0);
+        expected("the first never", x, 0, 1);
+        x.set(0, 1, 4);
+        expected("the first always", x, 1, 2048);
+        for (int d = 0; d < 12; d++) {
+            x.worth(d, 0, 1);
+        }
+        expected("each by which goes ahead of it", x, 4095, 2048);
+    }
+
     private static void byKinds() {
         says("Terms", "one that would STAND (by its KIND, by which of those ahead STAND by then, by LAST YEAR; nothing "
             + "RIGHTED) does so as often of 4 times as its ODDS tell, apart; else it does not STAND (and costs nothing)");
@@ -464,6 +484,7 @@ public final class ComingEdgesTest {
         nothingIsRighted();
         forgottenRefused();
         odds();
+        byNumbers();
         byKinds();
         greatNumbers();
         sixtyYears();

@@ -479,6 +479,10 @@ public final class DeedsEdgesTest {
             + "11; PEOPLE, YEARS so far stay)");
         BackYear x = allTold();
         x.back();
+        // Neither a year that was no text nor years to come may leave anything behind.
+        x.last(4095);
+        due("a fault ahead", Check.text(x, "hL,hL,hLab,"), -31);
+        due("years to come ahead", x.comes(4, 0), 1);
         due("one deed", Check.text(x, "pL"), 1);
         int[] want = {3, 1, 12, 1, 1, 0, 0};
         for (int what = 0; what <= 6; what++) {

@@ -64,6 +64,7 @@ public final class FaceTest {
         for (Constructor<?> constructor : BackYear.class.getDeclaredConstructors()) {
             CHECK.due("parameters of " + constructor, constructor.getParameterCount(), 0);
         }
+        CHECK.holds("some twelve classes at most", BackYear.class.getDeclaredClasses().length <= 11);
         look(BackYear.class, names);
         for (Class<?> inner : BackYear.class.getDeclaredClasses()) {
             look(inner, names);
@@ -106,12 +107,40 @@ public final class FaceTest {
         none(source, "System\\.(?!arraycopy)");
         Matcher loops = Pattern.compile("\\bwhile\\b").matcher(source);
         CHECK.due("loops other than for", loops.results().count(), 1);
+        lines(source.split("\n"));
+    }
+
+    /** Rows are made once, with the objects that hold them; methods stay short. */
+    private static void lines(String[] lines) {
+        int began = 0;
+        for (int i = 0; i < lines.length; i++) {
+            boolean makes = Pattern.compile("\\bnew\\b").matcher(lines[i]).find();
+            CHECK.holds("new in a field alone: " + lines[i], !makes || lines[i].matches(" +private final .*;"));
+            if (lines[i].matches("( {4}| {8})(public|private).*\\) \\{")) {
+                began = i;
+            }
+            if (lines[i].matches("( {4}| {8})\\}")) {
+                CHECK.holds("some sixty lines at most, from " + lines[began], i - began < 60);
+            }
+        }
+    }
+
+    /** Each promise has a test that quotes it at its edges. */
+    private static void promises() throws IOException {
+        StringBuilder tests = new StringBuilder();
+        for (String name : new String[] {"Deeds", "Walk", "Walks", "Coming", "Sheets"}) {
+            tests.append(Files.readString(Path.of("src/test/java/" + name + "EdgesTest.java")));
+        }
+        for (int promise = 1; promise <= 36; promise++) {
+            CHECK.holds("promise " + promise + " is quoted", tests.indexOf("says(\"Promise " + promise + "\"") >= 0);
+        }
     }
 
     public static void main(String[] args) throws IOException {
         constants();
         members();
         source();
+        promises();
         CHECK.end();
     }
 }

@@ -383,6 +383,11 @@ public final class SheetsEdgesTest {
         net("a later day is no need", first, 1, 0, NONE, 2 | 1, 0);
         net("a day ahead is", first, 2, 1, 2, 4 | 2, 0);
         net("a greater number is no need", first, 1, 0, NONE, 2 | 4, 0);
+        BackYear gaps = Check.of(2, "pA,pL,pA,pL,pB,aB");
+        net("later days between", gaps, 4, 4, 0, 63);
+        net("later days between, one at least", gaps, 4, 3, 1, 16 | 15, 0);
+        net("later days between, of any", gaps, 5, 8 - 1, 1, 63, 0);
+        net("later days between, the last alone", gaps, 5, 1, 16, 32 | 16 | 8, 47 - 32);
         BackYear same = Check.of(2, "pB,pB,pA");
         net("the same day is a need", same, 1, 1, 1, 3, 0);
         net("the next day is not", same, 2, 0, NONE, 4 | 3, 0);

@@ -52,12 +52,26 @@ public final class WalksEdgesTest {
         due("wanted: two of one day", x.wanted(0, 3), NONE);
         due("wanted: two of the last day", x.wanted(0, 24), NONE);
         due("wanted: one of each of three days", x.wanted(3 - 1, 1 | 4 | 8), 1 | 4 | 8);
+        BackYear between = Check.of(1, "pA,pB,pA,pB,pC,pA");
+        worthToAll(between, 1, -3);
+        best("no two of one day, with others between", between, 4, 0, -18 + 6, 1 | 2 | 16);
+        due("wanted: two of one day, with another between", between.wanted(0, 1 | 2 | 4), NONE);
         BackYear y = Check.of(1, "pA,sAa,hBb");
         worthToAll(y, 1, -5);
         best("one that would not stand", y, 4, 0, -5, 0);
         due("wanted: not one that comes to stand by it", y.wanted(4, 1 | 2), NONE);
         y.last(4);
         best("a habit of last year would", y, 4, 0, -6, 4);
+        y.worth(0, 0, 0);
+        y.set(2, 0, 0);
+        due("a habit of last year can be chosen", y.self(), 4);
+        y.last(0);
+        due("another one can't", y.self(), 0);
+        says("Terms", "By it just these are RIGHTED.");
+        BackYear chain = Check.of(1, "pA,pBa,pCb,sDc");
+        worthToAll(chain, 1, -5);
+        chain.worth(3, 0, 9);
+        best("what falls by it costs nothing", chain, 4, 0, 9 - 1, 1);
         says("Terms", "(What is RIGHTED now counts for nothing.)");
         BackYear z = Check.of(1, "pK,pL,pKa");
         worthToAll(z, 1, -5);
@@ -348,6 +362,26 @@ public final class WalksEdgesTest {
         due("turn of 1", z.turn(1), 2);
     }
 
+    private static void turns() {
+        says("Promise 19", "SELF: the set.");
+        BackYear x = Check.of(2, "pL");
+        x.worth(0, 1, -9);
+        due("nothing is righted by it", x.self() + x.count(5), 1);
+        says("Terms", "TURN of one: the own VALUE by SELF less what it would be by it, if that one always chose nothing.");
+        due("who chooses", x.turn(1), 8);
+        due("who has nothing to choose", x.turn(0), 0);
+        x.worth(0, 0, 9);
+        x.set(0, 0, 9);
+        due("the other bears the cost: its own turns are none", x.turn(0), 0);
+        due("who chooses, at no cost", x.turn(1), 9);
+        BackYear y = Check.of(2, "pA,pB");
+        Check.worths(y, 0, -3, -3);
+        Check.worths(y, 1, -3, -3);
+        due("both choose", y.self(), 3);
+        due("the other's choice is as it was", y.turn(0), 2);
+        due("the other's choice is as it was, who bears nothing", y.turn(1), 3);
+    }
+
     private static void turnRefused() {
         says("Promise 20", "TURN of one. BAD less 100000.");
         for (int people = 1; people <= 4; people++) {
@@ -378,6 +412,8 @@ public final class WalksEdgesTest {
     }
 
     private static void bargains() {
+        says("Promise 21", "A BARGAIN of the first with the other one: LOSS, 0 at least (0), GAIN (1).");
+        bargain("between loss and gain", -7, 3, 0, 3, 7);
         says("Terms", BARGAIN);
         bargain("gain is loss", -9, 9, 0, 9, 9);
         bargain("gain is 1 less", -8, 9, 0, NONE, NONE);
@@ -396,7 +432,8 @@ public final class WalksEdgesTest {
     }
 
     private static void asAllIsNow() {
-        says("Terms", "over a DEED that STANDS as all is now: by its being RIGHTED, too (whatever THE DAY)");
+        says("Terms", "A BARGAIN over a DEED that STANDS as all is now: by its being RIGHTED, too (whatever THE DAY), the "
+            + "first's VALUE is more by so much (GAIN), the other one's less by so much (LOSS).");
         BackYear x = Check.of(2, "pK,pK,sKa,pLb,pA");
         Check.worths(x, 0, -5, 2);
         Check.worths(x, 2, 1, 0);
@@ -411,6 +448,7 @@ public final class WalksEdgesTest {
         x.back();
         x.right(1);
         due("one of the day is righted", x.bargain(0, 0, 1, 1), 6);
+        due("one of the day is righted, loss", x.bargain(0, 0, 1, 0), 2);
         due("with what fell with that", x.value(1), 2);
         says("Promise 21", "NOT: the DEED does not STAND; NONE: there is none.");
         due("the righted one itself", x.bargain(1, 0, 1, 0), NOT);
@@ -554,6 +592,8 @@ public final class WalksEdgesTest {
         says("Terms", "PAYMENTS: the fewest by which all DUES are paid off: those whose DUE is not 0, less the most sets "
             + "into which they can be parted so that DUES of each come to 0.");
         dues("no due", owed(4), 0, 0, 0, 0, 0);
+        dues("no due of one alone", owed(1), 0, 0);
+        says("Promise 23", "PAYMENTS.");
         dues("one set of two", owed(4, 0, 3, 1), 1, -1, 0, 0, 1);
         dues("one set of three", owed(4, 0, 1, 1, 0, 3, 1), 2, -2, 1, 0, 1);
         dues("one set of three, round", owed(3, 0, 1, 5, 1, 2, 3), 2, -5, 2, 3);
@@ -579,6 +619,7 @@ public final class WalksEdgesTest {
         whoChooses();
         likeChoices();
         knowing();
+        turns();
         turnRefused();
         bargains();
         asAllIsNow();

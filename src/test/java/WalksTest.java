@@ -9,13 +9,6 @@ public final class WalksTest {
         CHECK.due(call, got, want);
     }
 
-    /** What of deeds 0, 1 .. is the cost. */
-    private static void costs(BackYear x, int... costs) {
-        for (int d = 0; d < costs.length; d++) {
-            x.set(d, 0, costs[d]);
-        }
-    }
-
     private static void best(BackYear x, String what, int k, int fair, int sum, int set) {
         due("17 " + what + ": sum", x.best(k, fair, 0), sum);
         due("17 " + what + ": set", x.best(k, fair, 1), set);
@@ -45,7 +38,7 @@ public final class WalksTest {
     private static void promise17likeOnes() {
         BackYear x = Check.of(1, "pA,pB,aCab");
         Check.worths(x, 2, -5);
-        costs(x, 0, 0, 0);
+        Check.costs(x, 0, 0, 0);
         best(x, "the fewest, then the least set", 4, 0, 0, 4);
         BackYear y = Check.of(1, "pA,pA,pB");
         Check.worths(y, 0, -3);
@@ -53,7 +46,7 @@ public final class WalksTest {
         Check.worths(y, 2, -3);
         best(y, "the least set", 1, 0, -7, 1);
         best(y, "no two of one day", 4, 0, -5, 5);
-        costs(y, 3, 3, 3);
+        Check.costs(y, 3, 3, 3);
         best(y, "none without a gain", 4, 0, -9, 0);
         BackYear z = Check.of(1, "pA,pB,pC,pD,pE,pF");
         for (int d = 0; d < 6; d++) {
@@ -74,9 +67,9 @@ public final class WalksTest {
         BackYear y = Check.of(3, "pA,pB");
         Check.worths(y, 0, -9, -9, 1);
         Check.worths(y, 1, -1, 0, 0);
-        costs(y, 2, 1);
+        Check.costs(y, 2, 1);
         best(y, "nobody worse off: the third bears it, too", 4, 1, -18, 0);
-        costs(y, 2, 0);
+        Check.costs(y, 2, 0);
         best(y, "fair, a free one", 4, 1, -17, 2);
         best(y, "not fair", 4, 0, -2, 3);
         y.people(2);
@@ -122,7 +115,7 @@ public final class WalksTest {
         BackYear x = Check.of(2, "pA,pB,pCab");
         Check.worths(x, 0, -2, -3);
         Check.worths(x, 2, 5, 1);
-        costs(x, 0, 0, 0);
+        Check.costs(x, 0, 0, 0);
         return x;
     }
 
@@ -148,9 +141,9 @@ public final class WalksTest {
         Check.worths(x, 1, -2, 0);
         due("19 the least deed of like ones", x.self(), 1);
         due("20 it is worth", x.turn(0), 1);
-        costs(x, 2, 2);
+        Check.costs(x, 2, 2);
         due("19 nothing first of like ones", x.self(), 0);
-        costs(x, 2, 1);
+        Check.costs(x, 2, 1);
         due("19 the better deed", x.self(), 2);
         due("20 nothing to choose for 1", x.turn(1), 0);
         BackYear y = Check.of(3, "pB,pC,pD,pL");
@@ -178,9 +171,9 @@ public final class WalksTest {
         bargain("the other has no loss", x, 0, 2, 0, 4);
         bargain("no gain", x, 1, 0, -4, -4);
         bargain("less than the loss", x, 2, 1, -4, -4);
-        costs(x, 2);
+        Check.costs(x, 2);
         bargain("less than the loss by the cost", x, 0, 1, -4, -4);
-        costs(x, 0);
+        Check.costs(x, 0);
         bargain("more than the loss", x, 0, 1, 3, 4);
         Check.worths(x, 1, -2, 1);
         bargain("with what falls", x, 0, 1, 4, 6);
