@@ -205,8 +205,8 @@ public final class ComingEdgesTest {
 
     private static void greatNumbers() {
         says("Promise 26", "Its lower number.");
-        BackYear x = Check.of(4, TWELVE);
         for (int sign = -1; sign <= 1; sign += 2) {
+            BackYear x = Check.of(4, TWELVE);
             for (int odds = 0; odds <= 4; odds++) {
                 for (int d = 0; d < 12; d++) {
                     Check.worths(x, d, 9 * sign, 9 * sign, 9 * sign, 9 * sign);

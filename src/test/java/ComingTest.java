@@ -165,6 +165,10 @@ public final class ComingTest {
     private static void walks(String what, BackYear x, int k) {
         int behind = x.comes(k, 0);
         int ahead = x.comes(k, 1);
+        int[] days = new int[x.count(1)];
+        for (int d = 0; d < days.length; d++) {
+            days[d] = x.told(d, 1);
+        }
         int[] begun = new int[behind + 1];
         begun[0] = x.count(6);
         for (int year = 1; year <= behind; year++) {
@@ -172,8 +176,8 @@ public final class ComingTest {
             x.year();
             x.last(begun[year - 1]);
             for (int day = 11; day >= 0; day--) {
-                for (int d = 0; d < x.count(1); d++) {
-                    if ((walk >> d & 1) != 0 && x.told(d, 1) == day) {
+                for (int d = 0; d < days.length; d++) {
+                    if ((walk >> d & 1) != 0 && days[d] == day) {
                         CHECK.holds("27 " + what + ": the best can be righted", x.right(d) > 0);
                     }
                 }

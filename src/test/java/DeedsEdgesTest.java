@@ -160,13 +160,14 @@ public final class DeedsEdgesTest {
         due("one of the next day with others", x.deed(0, 5, 7), BAD);
         due("all but that one", x.deed(0, 5, 3), 3);
         due("refused, none came", x.count(1), 4);
-        for (int d = 4; d < 12; d++) {
+        for (int d = 2; d < 12; d++) {
+            BackYear y = deeds(d);
             int all = (1 << d) - 1;
-            CHECK.beyondSets("needs of deed " + d, needs -> x.deed(0, 11, needs), BAD, d);
-            due("all of lesser numbers", x.deed(0, 11, all), d);
-            due("they are told", x.told(d, 2), all);
+            CHECK.beyondSets("needs of deed " + d, needs -> y.deed(0, 11, needs), BAD, d);
+            due("all of lesser numbers", y.deed(0, 11, all), d);
+            due("they are told", y.told(d, 2), all);
         }
-        CHECK.beyondSets("needs, as it is full", needs -> x.deed(0, 11, needs), BAD, 12);
+        CHECK.beyondSets("needs, as it is full", needs -> deeds(12).deed(0, 11, needs), BAD, 12);
     }
 
     private static void told() {
@@ -233,9 +234,9 @@ public final class DeedsEdgesTest {
 
     private static void worth() {
         says("Terms", "a WORTH to each of PEOPLE (-9 .. 9; 0 at first)");
-        BackYear x = deeds(12);
         for (int d = 0; d < 12; d += 11) {
             for (int p = 0; p < 4; p++) {
+                BackYear x = deeds(12);
                 int deed = d;
                 int person = p;
                 due("at first", x.worthOf(d, p), 0);
@@ -246,8 +247,12 @@ public final class DeedsEdgesTest {
                 due("told", x.worthOf(d, p), -9);
                 due("-1, though that is how BAD is told", x.worth(d, p, -1), -9);
                 due("told, though that is how BAD is told", x.worthOf(d, p), -1);
-                due("becomes p", x.worth(d, p, p), -1);
             }
+        }
+        BackYear x = deeds(12);
+        for (int p = 0; p < 4; p++) {
+            x.worth(0, p, p);
+            x.worth(11, p, -p);
         }
         says("Promise 6", "WORTH of a DEED to one (0 .. 3) becomes v: what it was. BAD less 100000.");
         CHECK.beyond("person", person -> x.worth(0, person, 5), BAD_LESS, 0, 3);
@@ -257,7 +262,7 @@ public final class DeedsEdgesTest {
         CHECK.beyond("deed", deed -> x.worthOf(deed, 0), BAD_LESS, 0, 11);
         for (int d = 0; d < 12; d++) {
             for (int p = 0; p < 4; p++) {
-                due("refused, worth of " + d + " to " + p + " as it was", x.worthOf(d, p), d % 11 == 0 ? p : 0);
+                due("refused, worth of " + d + " to " + p + " as it was", x.worthOf(d, p), d == 0 ? p : d == 11 ? -p : 0);
             }
         }
         BackYear y = deeds(1);

@@ -1,6 +1,7 @@
 /** Long runs of chosen calls, each answer compared with the model's. The choice is always the same. */
 public final class RandomRunsTest {
-    private static final int RUNS = 160, CALLS = 512;
+    /** An object is good for so many calls; no choice makes more than MOST_AT_ONCE. */
+    private static final int RUNS = 250, CALLS = 512, MOST_AT_ONCE = 90;
     private static final String[] NAMES = {"people", "deed", "told", "set", "worth", "worthOf", "last", "type",
         "text", "count", "right", "back", "year", "value", "bears", "best", "wanted", "self", "turn", "bargain",
         "due", "payments", "forgotten", "upper", "lower", "comes", "image", "restore", "judged", "net", "film",
@@ -46,9 +47,11 @@ public final class RandomRunsTest {
     private Model m;
     private StringBuilder calls;
     private boolean prepared;
+    private int made;
     private final int[] laneOf = new int[4];
 
     private void due(String call, long got, long want) {
+        made++;
         calls.append(call).append(" -> ").append(want).append("; ");
         if (got != want) {
             check.due(calls.toString(), got, want);
@@ -58,7 +61,7 @@ public final class RandomRunsTest {
     }
 
     private int deeds() {
-        return x.count(1);
+        return m.count(1);
     }
 
     private int all() {
@@ -69,7 +72,7 @@ public final class RandomRunsTest {
     private int needable(int number, int day) {
         int set = 0;
         for (int d = 0; d < number && d < deeds(); d++) {
-            set |= x.told(d, 1) <= day ? 1 << d : 0;
+            set |= m.told(d, 1) <= day ? 1 << d : 0;
         }
         return set;
     }
@@ -79,7 +82,7 @@ public final class RandomRunsTest {
     }
 
     private int aPerson() {
-        return near(0, x.count(0) - 1);
+        return near(0, m.count(0) - 1);
     }
 
     private int aSet(int whole) {
@@ -120,13 +123,13 @@ public final class RandomRunsTest {
             case 9: { int w = near(0, 6); due(name + "(" + w + ")", x.count(w), m.count(w)); break; }
             case 10: { int d = upTo(4) == 0 ? aDeed() : deedOfTheDay(); due(name + "(" + d + ")", x.right(d), m.right(d)); break; }
             case 11: {
-                if (x.count(2) == 0 && upTo(2) != 0) {
+                if (m.count(2) == 0 && upTo(2) != 0) {
                     due("year()", x.year(), m.year());
                 }
                 due(name + "()", x.back(), m.back());
                 break; }
             case 12: due(name + "()", x.year(), m.year()); break;
-            case 13: { int p = near(-1, x.count(0) - 1); due(name + "(" + p + ")", x.value(p), m.value(p)); break; }
+            case 13: { int p = near(-1, m.count(0) - 1); due(name + "(" + p + ")", x.value(p), m.value(p)); break; }
             case 14: { int d = aDeed(); due(name + "(" + d + ")", x.bears(d), m.bears(d)); break; }
             default: callWalks(op);
         }
@@ -241,10 +244,10 @@ public final class RandomRunsTest {
     }
 
     private void forgotten() {
-        int day = deeds() > 0 && upTo(1) == 0 ? x.told(upTo(deeds() - 1), 1) : near(0, 11);
-        int told = upTo(2) == 0 ? aSet(all()) : x.count(4);
+        int day = deeds() > 0 && upTo(1) == 0 ? m.told(upTo(deeds() - 1), 1) : near(0, 11);
+        int told = upTo(2) == 0 ? aSet(all()) : m.count(4);
         for (int d = 0; d < deeds() && upTo(20) != 0; d++) {
-            told &= x.told(d, 1) == day ? ~(1 << d) : ~0;
+            told &= m.told(d, 1) == day ? ~(1 << d) : ~0;
         }
         int what = near(0, 1);
         due3("forgotten", day, told, what, x.forgotten(day, told, what), m.forgotten(day, told, what));
@@ -260,8 +263,8 @@ public final class RandomRunsTest {
         for (int place = 0; place < 12 && upTo(30) != 0; place++) {
             int chosen = -1;
             for (int d = 0; d < deeds(); d++) {
-                boolean can = upTo(9) == 0 || x.told(d, 5) == 1;
-                chosen = x.told(d, 1) == 11 - place && can && upTo(1) == 0 ? d : chosen;
+                boolean can = upTo(9) == 0 || m.told(d, 5) == 1;
+                chosen = m.told(d, 1) == 11 - place && can && upTo(1) == 0 ? d : chosen;
             }
             item(s, lane, i < 0 || i > 16 ? 0 : i + place, upTo(60) == 0 ? near(-2, 12) : chosen);
         }
@@ -293,7 +296,7 @@ public final class RandomRunsTest {
     private int deedOfTheDay() {
         int found = aDeed();
         for (int d = 0; d < deeds(); d++) {
-            found = x.told(d, 1) == x.count(2) - 1 && upTo(2) != 0 ? d : found;
+            found = m.told(d, 1) == m.count(2) - 1 && upTo(2) != 0 ? d : found;
         }
         return found;
     }
@@ -328,13 +331,15 @@ public final class RandomRunsTest {
         x = new BackYear();
         m = new Model();
         calls = new StringBuilder();
+        made = 0;
         prepared = upTo(4) != 0;
         if (prepared) {
             prepare();
         }
-        for (int done = 0; done < CALLS; done++) {
+        while (made + MOST_AT_ONCE <= CALLS) {
             call(pick());
         }
+        check.holds("no more calls than an object is good for", made <= CALLS);
     }
 
     public static void main(String[] args) {

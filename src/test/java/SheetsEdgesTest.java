@@ -226,9 +226,9 @@ public final class SheetsEdgesTest {
     private static void whichDayAndDeed() {
         says("Promise 30", "of DAYS 11, 10 .. 0 a DEED to be RIGHTED, or -1 for nothing: the first place at which that "
             + "can't be, as a WALK goes (0 .. 11).");
-        BackYear x = Check.of(2, TWELVE);
         for (int place = 0; place < 12; place++) {
             for (int d = -2; d <= 12; d++) {
+                BackYear x = Check.of(2, TWELVE);
                 long[] row = nothing(12);
                 row[place] = d;
                 Check.row(x, 0, d & 3, row);
@@ -396,9 +396,9 @@ public final class SheetsEdgesTest {
     private static void howManyYears() {
         says("Promise 31", "A NET of a DEED: n sets (1 .. 8) likewise: how many (0), the least (1).");
         for (int lane = 0; lane <= 3; lane++) {
-            BackYear x = Check.of(2, "pA,pA,pA,aA");
-            Check.row(x, 2, lane, 15, 15, 15, 15, 15, 15, 15, 0, 15, 9, 10, 12, 15, 15, 15, 8);
             for (int n = 1; n <= 8; n++) {
+                BackYear x = Check.of(2, "pA,pA,pA,aA");
+                Check.row(x, 2, lane, 15, 15, 15, 15, 15, 15, 15, 0, 15, 9, 10, 12, 15, 15, 15, 8);
                 due(n + " years, the last of eight lets none", x.net(3, 2, lane, 0, n, 0), n == 8 ? 7 : 8);
                 due(n + " years, the least", x.net(3, 2, lane, 0, n, 1), n == 8 ? 1 : 0);
                 due(n + " years from item 8 on", x.net(3, 2, lane, 8, n, 0), n == 1 ? 8 : n == 2 ? 5 : n == 3 ? 3
@@ -408,9 +408,10 @@ public final class SheetsEdgesTest {
                 CHECK.beyond("i for " + n, i -> x.net(3, 2, from, i, of, 0), INDEX, 0, 16 - n);
                 due("from the last i on", x.net(3, 2, lane, 16 - n, n, 0), 1);
             }
-            int from = lane;
-            CHECK.beyond("n", n -> x.net(3, 2, from, 0, n, 0), BAD, 1, 8);
         }
+        BackYear x = Check.of(2, "pA,pA,pA,aA");
+        Check.row(x, 2, 1, new long[16]);
+        CHECK.beyond("n", n -> x.net(3, 2, 1, 0, n, 0), BAD, 1, 8);
     }
 
     private static void netNot() {
@@ -499,56 +500,72 @@ public final class SheetsEdgesTest {
         for (int people = 1; people <= 4; people++) {
             for (int l = 0; l <= 3; l++) {
                 int lane = l;
-                BackYear x = Check.of(people, "pA");
-                Check.worths(x, 0, 5, 6, 7, 8);
-                x.sheet(0, lane, 16);
-                for (int i = 0; i < 16; i++) {
-                    x.item(0, lane, i, 1);
-                }
+                BackYear x = toFilm(people, lane);
                 CHECK.beyond("i of 16, for " + people, i -> x.film(0, lane, i), INDEX, 0, 16 - people);
                 holds("refused, the last as it was", x, 0, lane, 15, 1);
                 holds("refused, the first as it was", x, 0, lane, 0, 1);
-                due("from the last i on", x.film(0, lane, 16 - people), people);
-                holds("ahead of these", x, 0, lane, 15 - people, 1);
-                for (int p = 0; p < people; p++) {
-                    holds("value of " + p, x, 0, lane, 16 - people + p, 5 + p);
-                }
-                due("from item 0 on", x.film(0, lane, 0), people);
-                holds("value of the last", x, 0, lane, people - 1, 4 + people);
-                holds("behind these", x, 0, lane, people, 1);
                 for (int n = 0; n <= 4; n++) {
                     x.sheet(1, lane, n);
                     due(people + " in " + n, x.film(1, lane, 0), n < people ? INDEX : people);
                 }
+                filmed(toFilm(people, lane), people, lane);
             }
         }
+    }
+
+    /** A row of 16 items, all 1, and a deed. */
+    private static BackYear toFilm(int people, int lane) {
+        BackYear x = Check.of(people, "pA");
+        Check.worths(x, 0, 5, 6, 7, 8);
+        x.sheet(0, lane, 16);
+        for (int i = 0; i < 16; i++) {
+            x.item(0, lane, i, 1);
+        }
+        return x;
+    }
+
+    private static void filmed(BackYear x, int people, int lane) {
+        due("from the last i on", x.film(0, lane, 16 - people), people);
+        holds("ahead of these", x, 0, lane, 15 - people, 1);
+        for (int p = 0; p < people; p++) {
+            holds("value of " + p, x, 0, lane, 16 - people + p, 5 + p);
+        }
+        due("from item 0 on", x.film(0, lane, 0), people);
+        holds("value of the last", x, 0, lane, people - 1, 4 + people);
+        holds("behind these", x, 0, lane, people, 1);
     }
 
     private static void filmValues() {
         says("Promise 32", "VALUES of all PEOPLE come to a SHEET likewise (their lowest bits): how many.");
         for (int lane = 0; lane <= 3; lane++) {
-            BackYear x = Check.of(4, TWELVE);
-            for (int d = 0; d < 12; d++) {
-                Check.worths(x, d, 9, -9, 0, d == 0 ? -1 : 0);
-                x.set(d, 0, 9);
-            }
-            x.sheet(0, lane, 4);
+            BackYear x = toFilmTwelve(lane);
             due("the most and the least", x.film(0, lane, 0), 4);
             holds("108", x, 0, lane, 0, 108);
             holds("-108", x, 0, lane, 1, OTHER);
             holds("0", x, 0, lane, 2, 0);
             holds("-1", x, 0, lane, 3, -1);
-            Check.walk(x, 4095);
-            due("as all is", x.film(0, lane, 0), 4);
-            holds("-108 by costs", x, 0, lane, 0, OTHER);
-            holds("0, as all are righted", x, 0, lane, 1, 0);
-            holds("0, as all are righted", x, 0, lane, 3, 0);
+            BackYear y = toFilmTwelve(lane);
+            Check.walk(y, 4095);
+            due("as all is", y.film(0, lane, 0), 4);
+            holds("-108 by costs", y, 0, lane, 0, OTHER);
+            holds("0, as all are righted", y, 0, lane, 1, 0);
+            holds("0, as all are righted", y, 0, lane, 3, 0);
         }
         BackYear none = new BackYear();
         Check.row(none, 0, 0, 5, 5, 5);
         due("of no deed", none.film(0, 0, 0), 2);
         holds("0", none, 0, 0, 1, 0);
         holds("behind it", none, 0, 0, 2, 5);
+    }
+
+    private static BackYear toFilmTwelve(int lane) {
+        BackYear x = Check.of(4, TWELVE);
+        for (int d = 0; d < 12; d++) {
+            Check.worths(x, d, 9, -9, 0, d == 0 ? -1 : 0);
+            x.set(d, 0, 9);
+        }
+        x.sheet(0, lane, 4);
+        return x;
     }
 
     private static void filmRefused() {

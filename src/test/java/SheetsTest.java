@@ -29,20 +29,24 @@ public final class SheetsTest {
         }
     }
 
+    private static BackYear toWalk() {
+        return Check.of(2, "pA,pKa,sKa,hLb,pL,hLc");
+    }
+
     private static void promise30() {
-        BackYear x = Check.of(2, "pA,pKa,sKa,hLb,pL,hLc");
-        judged("nothing", x, -4);
-        judged("one a day", x, -4, 0, 4, 1, 1, 11, 0);
-        judged("the other of that day", x, -4, 0, 3);
-        judged("does not stand", x, 1, 0, 4, 1, 2);
-        judged("does not stand, though it would by then", x, 0, 0, 5);
-        judged("of another day", x, 0, 0, 1);
-        judged("of another day, later", x, 10, 1, 1, 10, 0);
-        judged("at the end", x, 11, 11, 1);
-        judged("no such deed", x, 5, 5, 6);
-        judged("far off", x, 5, 5, 100);
-        judged("below -1", x, 7, 7, -2);
-        judged("the first of two", x, 3, 3, 0, 4, 0);
+        judged("nothing", toWalk(), -4);
+        judged("one a day", toWalk(), -4, 0, 4, 1, 1, 11, 0);
+        judged("the other of that day", toWalk(), -4, 0, 3);
+        judged("does not stand", toWalk(), 1, 0, 4, 1, 2);
+        judged("does not stand, though it would by then", toWalk(), 0, 0, 5);
+        judged("of another day", toWalk(), 0, 0, 1);
+        judged("of another day, later", toWalk(), 10, 1, 1, 10, 0);
+        judged("at the end", toWalk(), 11, 11, 1);
+        judged("no such deed", toWalk(), 5, 5, 6);
+        judged("far off", toWalk(), 5, 5, 100);
+        judged("below -1", toWalk(), 7, 7, -2);
+        judged("the first of two", toWalk(), 3, 3, 0, 4, 0);
+        BackYear x = toWalk();
         x.last(32);
         judged("last year counts", x, -4, 0, 5);
         x.right(4);
@@ -149,11 +153,16 @@ public final class SheetsTest {
         due(what + ", item " + i + " of lane " + lane, Rows.read(x, sheet, lane, i), want);
     }
 
-    private static void promise32() {
+    private static BackYear toFilm() {
         BackYear x = Check.of(3, "pL,pK");
         Check.worths(x, 0, 4, -1, 0, 9);
         Check.worths(x, 1, 3, 0, 2, 9);
+        return x;
+    }
+
+    private static void promise32() {
         for (int lane = 0; lane < 4; lane++) {
+            BackYear x = toFilm();
             x.sheet(0, lane, 5);
             due("32 film, lane " + lane, x.film(0, lane, 1), 3);
             item("32 ahead of it", x, 0, lane, 0, 0);
@@ -162,6 +171,7 @@ public final class SheetsTest {
             item("32 value 2", x, 0, lane, 3, 2);
             item("32 behind it", x, 0, lane, 4, 0);
         }
+        BackYear x = toFilm();
         x.right(0);
         x.sheet(0, 0, 3);
         due("32 as all is", x.film(0, 0, 0), 3);

@@ -187,9 +187,9 @@ public final class WalksEdgesTest {
     private static void bestRefused() {
         says("Promise 17", "BEST of k (fair 0), FAIR (1): SUM (0), the set (1). BAD less 100000.");
         for (String deeds : new String[] {"pA", TWELVE}) {
-            BackYear x = Check.of(2, deeds);
             for (int f = 0; f <= 1; f++) {
                 for (int w = 0; w <= 1; w++) {
+                    BackYear x = Check.of(2, deeds);
                     int fair = f;
                     int what = w;
                     CHECK.beyond("k", k -> x.best(k, fair, what), BAD_LESS, 0, 4);
